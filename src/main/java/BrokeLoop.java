@@ -117,7 +117,7 @@ public final class BrokeLoop {
             return BAD;
         }
         history.remember(loop);
-        return loop.paperOf(n);
+        return loop.doTicks(n);
     }
 
     public int undo() {
@@ -250,7 +250,7 @@ public final class BrokeLoop {
             return BAD;
         }
         trial.copyFrom(loop);
-        int made = trial.paperOf(n);
+        int made = trial.doTicks(n);
         switch (what) {
             case 0: return made;
             case 1: return trial.account.spilled - loop.account.spilled;
@@ -280,7 +280,7 @@ public final class BrokeLoop {
         for (int limit = 0; limit <= MOST_LIMIT; limit += LIMIT_STEP) {
             trial.copyFrom(loop);
             trial.settings[LIMIT] = limit;
-            int made = trial.paperOf(n);
+            int made = trial.doTicks(n);
             if (made > most) {
                 most = made;
                 best = limit;
@@ -706,7 +706,7 @@ public final class BrokeLoop {
         }
 
         /** Does ticks, and returns the paper that is made in them. */
-        int paperOf(int ticks) {
+        int doTicks(int ticks) {
             int before = account.paperOfAll();
             for (int i = 0; i < ticks; i++) {
                 tick();

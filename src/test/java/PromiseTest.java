@@ -76,6 +76,7 @@ public final class PromiseTest {
         loop.change(2);
         loop.run(50);
         loop.tear(50);
+        loop.change(3);
         String before = Checks.view(loop);
         int changes = loop.told(12);
         Checks.due("begin()", loop.begin(), 50);
@@ -183,6 +184,10 @@ public final class PromiseTest {
         Checks.due("fill of broke", loop.fill(1, 3, 4), 0);
         Checks.chestHas("filled", loop, 1, 3, 4);
         Checks.due("the grade of the broke stays", loop.told(5), 0);
+        Checks.due("fill of the broke chest with water", loop.fill(1, 0, 29993), 0);
+        Checks.due("room", loop.chest(1, 3), 0);
+        loop.fill(1, 0, 1);
+        Checks.due("one beyond the room", loop.chest(1, 3), 0);
         greatestSpill();
     }
 
@@ -215,6 +220,9 @@ public final class PromiseTest {
         loop.fill(3, 7, 0);
         Checks.due("drain of fibre alone", loop.drain(3, 3), 3);
         Checks.chestHas("drained", loop, 3, 4, 0);
+        loop.drain(3, 3);
+        Checks.due("drain of the last one", loop.drain(3, 1), 1);
+        Checks.chestHas("drained", loop, 3, 0, 0);
     }
 
     private static void run() {

@@ -15,6 +15,7 @@ public final class TextTest {
         order();
         carriedOut();
         pastEntries();
+        entriesThatWere();
         entriesThatAreNone();
         Checks.end("TextTest");
     }
@@ -246,6 +247,19 @@ public final class TextTest {
         Checks.due("entries", loop.told(8), 3);
         loop.run(3);
         Checks.due("flow", loop.setting(2), 100);
+    }
+
+    private static void entriesThatWere() {
+        BrokeLoop loop = Checks.planned("b2:9 b3:9 g4:1 f5:7");
+        Checks.write(loop, "g1:2");
+        loop.plan();
+        Checks.due("entries ahead", loop.told(9), 1);
+        loop.run(1);
+        Checks.due("entries ahead", loop.told(9), 0);
+        loop.run(9);
+        Checks.due("sheet", loop.told(2), 0);
+        Checks.due("grade", loop.told(1), 2);
+        Checks.due("flow", loop.setting(2), 500);
     }
 
     private static void entriesThatAreNone() {

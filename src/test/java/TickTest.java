@@ -294,6 +294,11 @@ public final class TickTest {
         Checks.due("greatest sum at the end of a tick", loop.chest(1, 4), 850);
         Checks.due("greatest sum at the end of a tick", loop.chest(0, 4), 19650);
         Checks.due("greatest sum at the end of a tick", loop.chest(2, 4), 0);
+        loop.fill(2, 0, 5000);
+        loop.fill(3, 0, 3000);
+        loop.run(1);
+        Checks.due("greatest sum at the end of a tick", loop.chest(2, 4), 5000);
+        Checks.due("greatest sum at the end of a tick", loop.chest(3, 4), 3000);
         loop.drain(0, 50000);
         loop.run(1);
         Checks.due("the greatest sum stays", loop.chest(0, 4), 19650);
