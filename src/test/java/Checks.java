@@ -1,5 +1,7 @@
 /** Counts answers that are not as due, and ends the program with the code 1 if there was one. */
 final class Checks {
+    private static final int MOST_TOLD = 40;
+
     private static int done = 0;
     private static int wrong = 0;
 
@@ -9,8 +11,7 @@ final class Checks {
     static void due(String what, double got, double want) {
         done++;
         if (got != want) {
-            wrong++;
-            System.out.println(what + " answered " + got + ", due is " + want);
+            isWrong(what + " answered " + got + ", due is " + want);
         }
     }
 
@@ -21,8 +22,21 @@ final class Checks {
     static void holds(String what, boolean held) {
         done++;
         if (!held) {
-            wrong++;
-            System.out.println(what + " does not hold");
+            isWrong(what + " does not hold");
+        }
+    }
+
+    static void same(String what, String got, String want) {
+        done++;
+        if (!got.equals(want)) {
+            isWrong(what + ": seen is\n  " + got + "\ndue is\n  " + want);
+        }
+    }
+
+    private static void isWrong(String what) {
+        wrong++;
+        if (wrong <= MOST_TOLD) {
+            System.out.println(what);
         }
     }
 
@@ -42,9 +56,13 @@ final class Checks {
 
     static BrokeLoop planned(String text) {
         BrokeLoop loop = new BrokeLoop();
-        write(loop, text);
-        loop.plan();
+        plan(loop, text);
         return loop;
+    }
+
+    static void plan(BrokeLoop loop, String text) {
+        write(loop, text);
+        holds("plan() of '" + text + "'", loop.plan() >= 0);
     }
 
     static void chestHas(String when, BrokeLoop loop, int chest, int fibre, int water) {
@@ -52,7 +70,16 @@ final class Checks {
         due(when + ": water of chest " + chest, loop.chest(chest, 1), water);
     }
 
-    /** Everything that can be seen of a loop, but for what undo leaves alone. */
+    static int mass(BrokeLoop loop, int chest) {
+        return loop.chest(chest, 0) + loop.chest(chest, 1);
+    }
+
+    static void empty(BrokeLoop loop, int chest) {
+        loop.drain(chest, 50000);
+        due("mass of the emptied chest " + chest, mass(loop, chest), 0);
+    }
+
+    /** What can be seen of a loop, but for what undo leaves alone; some 60 calls, so that an object has enough of them. */
     static String view(BrokeLoop loop) {
         StringBuilder seen = new StringBuilder();
         for (int what = 0; what <= 10; what++) {
@@ -83,11 +110,17 @@ final class Checks {
     /** The measurements behind the latest one show in what would be only. */
     private static String forecasts(BrokeLoop loop) {
         StringBuilder seen = new StringBuilder();
-        for (int ticks = 1; ticks <= 41; ticks += 4) {
-            for (int what = 0; what < 4; what++) {
-                seen.append(" l").append(loop.later(ticks, what));
-            }
+        for (int ticks = 1; ticks <= 21; ticks += 5) {
+            seen.append(" l").append(loop.later(ticks, ticks % 2 == 0 ? 0 : 2));
         }
+        seen.append(" l").append(loop.later(9, 1)).append(" l").append(loop.later(30, 3));
         return seen.append(" o").append(loop.overflow()).append(" b").append(loop.bestLimit(20)).toString();
+    }
+
+    /** The text, the latest fault and what can be undone besides. */
+    static String wholeView(BrokeLoop loop) {
+        StringBuilder seen = new StringBuilder(view(loop));
+        seen.append(" bytes ").append(loop.told(11)).append(" changes ").append(loop.told(12));
+        return seen.append(" fault ").append(loop.fault(0)).append(" at ").append(loop.fault(1)).toString();
     }
 }
