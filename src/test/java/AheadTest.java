@@ -186,7 +186,7 @@ public final class AheadTest {
         Checks.due("fibre alone spills", loop.overflow(), 1);
     }
 
-    /** "After how many ticks the broke chest spills in step 6": what other chests spill, or spilled before, is not it. */
+    /** "After how many ticks the broke chest spills in step 6": what others spill, or spilled before, is not it. */
     private static void overflowOfStepSixAlone() {
         BrokeLoop loop = still(0, 0);
         loop.fill(0, 5000, 50000);

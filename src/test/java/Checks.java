@@ -79,7 +79,7 @@ final class Checks {
         due("mass of the emptied chest " + chest, mass(loop, chest), 0);
     }
 
-    /** What can be seen of a loop, but for what undo leaves alone; some 60 calls, so that an object has enough of them. */
+    /** What can be seen of a loop, but for what undo leaves alone, in some 60 calls: an object has 512 of them. */
     static String view(BrokeLoop loop) {
         StringBuilder seen = new StringBuilder();
         for (int what = 0; what <= 10; what++) {

@@ -224,7 +224,8 @@ public final class ModelTest {
         int entries = 18 + next(4);
         for (int i = 0; i < entries; i++) {
             told.append(" ".repeat(next(20) == 0 ? 2 : 1));
-            told.append(LETTERS.charAt(next(3))).append(next(40) == 0 ? 0 : 1 + next(9)).append(':').append(1 + next(3));
+            told.append(LETTERS.charAt(next(3))).append(next(40) == 0 ? 0 : 1 + next(9));
+            told.append(':').append(1 + next(3));
         }
         int place = next(told.length());
         char other = (char) (next(2) == 0 ? SMALL.charAt(next(SMALL.length())) : 32 + next(95));

@@ -69,7 +69,8 @@ public final class ScheduleTest {
     /** "The schedule has at most 20 entries". */
     private static void mostEntries() {
         BrokeLoop loop = new BrokeLoop();
-        Checks.write(loop, "f1:1 f2:2 f3:3 f4:4 f5:5 f6:6 f7:7 f8:8 f9:9 b1:1 b2:2 b3:3 b4:4 b5:5 b6:6 b7:7 b8:8 b9:9 g1:1 g2:2");
+        Checks.write(loop, "f1:1 f2:2 f3:3 f4:4 f5:5 f6:6 f7:7 f8:8 f9:9 "
+                + "b1:1 b2:2 b3:3 b4:4 b5:5 b6:6 b7:7 b8:8 b9:9 g1:1 g2:2");
         Checks.due("plan() of 20 entries", loop.plan(), 20);
         Checks.due("entries", loop.told(8), 20);
         Checks.due("entries ahead", loop.told(9), 20);

@@ -175,7 +175,7 @@ public final class TextEdgesTest {
         }
     }
 
-    /** Each other byte than a digit, where a digit is due; each other than a digit or the sign, where one of them is. */
+    /** Each byte but a digit, where a digit is due; each but a digit or the sign, where one of them is due. */
     private static void digits() {
         for (char c = 32; c <= 126; c++) {
             boolean digit = c >= '0' && c <= '9';
@@ -274,7 +274,10 @@ public final class TextEdgesTest {
         bad("b1:1 ".repeat(19) + "b1:1b2:2", ANY_BYTE, 99);
     }
 
-    /** "2 a number that is out of its range (the place of its first digit; found at the byte behind it, ahead of what that byte is". */
+    /**
+     * "2 a number that is out of its range (the place of its first digit; found at the byte behind it, ahead of what
+     * that byte is".
+     */
     private static void rangeGoesAheadOfTheNextByte() {
         for (char c = 32; c <= 126; c++) {
             if (c < '0' || c > '9') {
